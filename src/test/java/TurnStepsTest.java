@@ -8,6 +8,7 @@ public final class TurnStepsTest {
         supplyIsCutByTheOtherSideInTheSameTown();
         supplyIsNotCutByLostUnits();
         supplyGoesByTheWeatherOfTheTurn();
+        supplyOfBothSidesGoesByTheWeather();
         supplyIsFromWhenTheTurnBegan();
         ordersNeedARoadThatIsOpen();
         ordersNeedSupply();
@@ -23,6 +24,7 @@ public final class TurnStepsTest {
         strengthIsAtLeastZero();
         fightGoesOnWhereUnitsStay();
         fightsAreInEveryTown();
+        fightsAreInTheFirstAndTheLastTown();
         sightIsInTheTownAndNextToIt();
         sightGoesOverClosedRoads();
         sightIsAfterMarchAndFight();
@@ -138,6 +140,24 @@ public final class TurnStepsTest {
         x.order(0, 2);
         x.play(0);
         Due.is("supply when it is dry", x.townOf(0), 2);
+    }
+
+    private static void supplyOfBothSidesGoesByTheWeather() {
+        int[][] due = {{3, 7}, {2, 8}, {2, 8}};
+        for (int weather = 0; weather < 3; weather++) {
+            WarTable x = new WarTable();
+            x.addRoad(0, 2, false);
+            x.addRoad(2, 3, true);
+            x.addRoad(9, 8, false);
+            x.addRoad(8, 7, true);
+            x.addUnit(0, 2, 5);
+            x.addUnit(1, 8, 5);
+            x.order(0, 3);
+            x.order(1, 7);
+            x.play(weather);
+            Due.is("townOf(0) in weather " + weather, x.townOf(0), due[weather][0]);
+            Due.is("townOf(1) in weather " + weather, x.townOf(1), due[weather][1]);
+        }
     }
 
     private static void supplyIsFromWhenTheTurnBegan() {
@@ -404,6 +424,25 @@ public final class TurnStepsTest {
         int[] due = {5, 2, 2, 5, 4};
         for (int unit = 0; unit < 5; unit++) {
             Due.is("two fights: strength(" + unit + ")", x.strength(unit), due[unit]);
+        }
+    }
+
+    private static void fightsAreInTheFirstAndTheLastTown() {
+        WarTable x = new WarTable();
+        x.setDepot(0, 8);
+        x.setDepot(1, 1);
+        x.addRoad(0, 1, true);
+        x.addRoad(8, 9, true);
+        x.addUnit(1, 1, 8);
+        x.addUnit(0, 0, 8);
+        x.addUnit(0, 8, 8);
+        x.addUnit(1, 9, 8);
+        x.order(0, 0);
+        x.order(2, 9);
+        x.play(0);
+        int[] due = {8, 6, 8, 6};
+        for (int unit = 0; unit < 4; unit++) {
+            Due.is("8 against 4 in towns 0 and 9: strength(" + unit + ")", x.strength(unit), due[unit]);
         }
     }
 

@@ -23,6 +23,7 @@ public final class TurnsTest {
         promise8KeepsOrdersForTheNextTurn();
         promise8BringsALostUnitBack();
         promise8LaterRulingsOfOtherTurnsStay();
+        promise8RulesTheFirstOfTwentyTurns();
         promise8RefusesWrongTurnFirst();
         promise8RefusesWrongWeather();
         promise9TakesRulingsBackFromTheLast();
@@ -298,6 +299,30 @@ public final class TurnsTest {
         Due.is("weather(1) stays ruled", x.weather(1), 2);
         Due.is("weather(0)", x.weather(0), 1);
         Due.is("townOf(0)", x.townOf(0), 1);
+    }
+
+    private static void promise8RulesTheFirstOfTwentyTurns() {
+        WarTable x = paved(4);
+        x.addUnit(0, 0, 5);
+        x.addUnit(0, 1, 5);
+        x.addUnit(0, 3, 5);
+        x.order(0, 1);
+        x.order(1, 2);
+        x.play(0);
+        for (int turn = 1; turn < 19; turn++) {
+            x.play(turn % 3);
+        }
+        x.order(2, 2);
+        x.play(0);
+        Due.is("rule(0, 2) after 20 turns", x.rule(0, 2), 2);
+        Due.is("rule(19, 2) after 20 turns", x.rule(19, 2), 1);
+        Due.is("townOf(0)", x.townOf(0), 0);
+        Due.is("townOf(1)", x.townOf(1), 1);
+        Due.is("townOf(2)", x.townOf(2), 3);
+        Due.is("appeal()", x.appeal(), 19);
+        Due.is("appeal() again", x.appeal(), 0);
+        Due.is("townOf(0) then", x.townOf(0), 1);
+        Due.is("townOf(2) then", x.townOf(2), 2);
     }
 
     private static void promise8RefusesWrongTurnFirst() {

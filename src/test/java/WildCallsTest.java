@@ -11,8 +11,6 @@ public final class WildCallsTest {
         14, 15, 16, 19, 20, 21, 22, 31, 32, 33, 251, 252, 264, 511, 512, 513, Integer.MAX_VALUE - 1, Integer.MAX_VALUE,
     };
 
-    private static int outcomes = 0;
-
     public static void main(String[] args) {
         for (int seed = 0; seed < 40; seed++) {
             Random random = new Random(seed);
@@ -26,7 +24,6 @@ public final class WildCallsTest {
             }
         }
         rulingsBehindTheLimit();
-        Due.is("calls were made", outcomes > 0 ? 1 : 0, 1);
         Due.end();
     }
 
@@ -56,7 +53,7 @@ public final class WildCallsTest {
     }
 
     private static void outcome(String where, Due.Call call) {
-        outcomes++;
+        String strange = "";
         try {
             call.answer();
         } catch (RuntimeException thrown) {
@@ -64,9 +61,10 @@ public final class WildCallsTest {
             boolean isDocumented = kind == IllegalArgumentException.class || kind == IllegalStateException.class
                     || kind == IndexOutOfBoundsException.class;
             if (!isDocumented || !thrown.getStackTrace()[0].getClassName().equals("WarTable")) {
-                Due.complain(where + " threw " + thrown);
+                strange = thrown.toString();
             }
         }
+        Due.is(where + " exceptions that are not the program's own (" + strange + ")", strange.isEmpty() ? 0 : 1, 0);
     }
 
     private static void rulingsBehindTheLimit() {
