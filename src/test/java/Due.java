@@ -19,6 +19,13 @@ final class Due {
         }
     }
 
+    static void is(String call, String got, String due) {
+        asked++;
+        if (!got.equals(due)) {
+            complain(call + " answered " + got + ", due is " + due);
+        }
+    }
+
     /** The very class is asked for: the machine's own exceptions are subclasses of some of these. */
     static void refuses(String call, Class<? extends RuntimeException> due, Call made) {
         asked++;
