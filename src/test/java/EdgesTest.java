@@ -306,6 +306,12 @@ public final class EdgesTest {
                 "strength 2 = 0", "strength 3 = 0"));
         Script.run("6 against 3", joined(two, "addUnit 0 0 6", "order 3 1", "play 0 = 1", "strength 0 = 1", "strength 1 = 3",
                 "strength 2 = 0", "strength 3 = 6"));
+        // Two sums of 0: nobody wins, and each unit loses 1. They come to meet with 2, and are both cut off then.
+        Script.run("0 against 0", "addRoad 0 1 1", "setDepot 1 1", "addUnit 0 0 2", "addUnit 1 1 2", "order 0 1",
+                "play 0 = 0", "strength 0 = 1", "strength 1 = 1", "supply 0 0 = -1", "supply 1 0 = -1", "play 0 = 2",
+                "townOf 0 = -1", "townOf 1 = -1", "force 0 = 0", "force 1 = 0");
+        Script.run("1 against 0", "addRoad 0 1 1", "addUnit 0 0 1", "addUnit 1 1 1", "order 0 1", "play 0 = 1", "strength 0 = 1",
+                "strength 1 = 0");
         // One of a side with supply and one without: unit 0 comes from the depot, unit 1 stands in town 1 cut off.
         Script.run("one with and one without", ways("setDepot 1 2", "addRoad 9 1 1", "addUnit 1 9 7", "addUnit 0 1 7",
                 "addUnit 1 2 5", "order 0 1", "order 2 1", "play 0 = 0", "strength 1 = 6", "strength 2 = 3",

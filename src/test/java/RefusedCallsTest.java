@@ -61,7 +61,8 @@ public final class RefusedCallsTest {
     private static List<Script.Call> mapWithRoom() {
         List<Script.Call> calls = new ArrayList<>();
         add(calls, "setDepot 0 1", "addRoad 0 1 1", "addRoad 1 2 1", "addRoad 2 3 0", "addRoad 3 8 1", "addRoad 8 9 1",
-                "addUnit 0 0 9", "addUnit 0 1 4", "addUnit 1 9 9", "addUnit 1 8 1", "order 0 1", "order 1 2", "order 2 8");
+                "addUnit 0 0 9", "addUnit 0 1 4", "addUnit 1 9 9", "addUnit 1 8 1", "addUnit 0 3 2", "order 0 1", "order 1 2",
+                "order 2 8");
         return calls;
     }
 
@@ -69,7 +70,7 @@ public final class RefusedCallsTest {
         List<Script.Call> calls = mapWithRoom();
         add(calls, "addRoad 0 4 1", "addRoad 4 5 0", "addRoad 5 6 1", "addRoad 6 7 1", "addRoad 7 9 0", "addRoad 0 9 1",
                 "addRoad 1 8 0", "addRoad 2 7 1", "addRoad 3 6 1", "addRoad 4 9 1");
-        add(calls, "addUnit 0 0 3", "addUnit 0 1 2", "addUnit 0 4 1", "addUnit 0 5 7", "addUnit 1 9 3", "addUnit 1 8 2",
+        add(calls, "addUnit 0 0 3", "addUnit 0 4 1", "addUnit 0 5 7", "addUnit 1 9 3", "addUnit 1 8 2",
                 "addUnit 1 7 5", "addUnit 1 6 8", "order 5 2", "order 11 3", "order 10 9");
         return calls;
     }
@@ -87,7 +88,7 @@ public final class RefusedCallsTest {
         for (int turn = 0; turn < 20; turn++) {
             add(calls, "play " + turn % 3, "order " + turn % 12 + " " + turn % 10);
         }
-        add(calls, "rule 19 1", "rule 3 2", "appeal", "rule 0 1", "rule 7 0");
+        add(calls, "rule 19 1", "rule 3 2", "appeal", "rule 0 1", "rule 7 0", "order 0 1", "order 2 8", "order 11 -1");
         return calls;
     }
 
@@ -148,7 +149,10 @@ public final class RefusedCallsTest {
 
     /** The answers tell which rulings stand and which orders are given. */
     private void askForWhatComes(List<Script.Call> asked, int turns) {
-        add(asked, "appeal", "force 0", "appeal", "force 1", "appeal", "force 0", "appeal", "play 0");
+        add(asked, "appeal", "force 0", "appeal", "force 1", "appeal", "force 0", "appeal");
+        if (turns < 20) {
+            add(asked, "play 0");
+        }
         for (int unit = 0; unit < count("addUnit"); unit++) {
             add(asked, "townAfter " + unit + " " + Math.min(turns, 19), "strength " + unit, "order " + unit + " -1");
         }
